@@ -614,7 +614,7 @@ public final class BuildEngine {
         /** Whether that is another CONTENT than it was. */
         boolean giveContent(int key, int v) {
             Result was = contentOf(key);
-            if (!isInput(key) || was != null && was.content == v) {
+            if (!isInput(key) || (was != null && was.content == v)) {
                 return false;
             }
             contents[key] = Result.ofContent(v);
@@ -994,7 +994,7 @@ public final class BuildEngine {
         }
 
         private static int stepsToPass(int sign, long v, int n) {
-            return sign == '?' && v == 0 || sign == '^' && v < 0 ? n : 0;
+            return (sign == '?' && v == 0) || (sign == '^' && v < 0) ? n : 0;
         }
 
         private static int bitOf(int key) {

@@ -4,6 +4,7 @@ public final class ImageTest {
         imageAndUndo();
         twice();
         ofNothing();
+        otherKeys();
         Check.end();
     }
 
@@ -81,6 +82,28 @@ public final class ImageTest {
         x.give(0, 6);
         x.undo();
         Check.due("result(0)", x.result(0), 5);
+    }
+
+    /** A TRACE comes back with its KEYS, not only with how many there were. */
+    private static void otherKeys() {
+        Check.part("35 undo of a TRACE");
+        BuildEngine x = new BuildEngine();
+        x.give(0, 3);
+        x.give(1, 4);
+        Check.ruled(x, 8, "+00");
+        x.build(8);
+        x.image();
+        Check.ruled(x, 8, "+01");
+        x.build(8);
+        Check.due("tried(8, 0, 5)", x.tried(8, 0, 5), 0);
+        Check.due("tried(8, 1, 5)", x.tried(8, 1, 5), 1);
+        x.undo();
+        Check.due("trace(8, 0)", x.trace(8, 0), 0);
+        Check.due("seen(8, 0)", x.seen(8, 0), 3);
+        Check.due("users(1)", x.users(1), 0);
+        Check.due("build(8)", x.build(8), 0);
+        x.give(0, 4);
+        Check.due("build(8) with another CONTENT", x.build(8), 1);
     }
 
     private static void ofNothing() {
