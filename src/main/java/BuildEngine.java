@@ -718,9 +718,8 @@ public final class BuildEngine {
             return deepened;
         }
 
-        /** The greatest DEPTH in a TRACE without KEYS is 0, so the DEPTH by such a TRACE is 1. */
         private int depthByTrace(Target target) {
-            if (target == null || !target.hasTrace()) {
+            if (target == null || target.traceLength < 1) {
                 return 0;
             }
             int greatest = 0;
@@ -1044,12 +1043,18 @@ public final class BuildEngine {
                 if (i >= STEPS * STEP_LENGTH || !(inStep == 0 ? isSign(letter) : isFigure(letter))) {
                     return i;
                 }
-                // Whether figures tell a KEY is seen at the second, but the FAULT is where they begin.
-                if (inStep == 2 && asksForKey(letterAt(i - 2)) && !isKey(numberAt(i - 1))) {
-                    return i - 1;
+                if (inStep > 0 && tellsNoKey(i - inStep, inStep)) {
+                    return i - inStep + 1;
                 }
             }
             return length > 0 && length % STEP_LENGTH == 0 ? NO_FAULT : length;
+        }
+
+        /** Whether the figures that are there of the STEP from a place on, one or both, can tell no KEY it asks for. */
+        private boolean tellsNoKey(int from, int figures) {
+            // A 0 may still come behind the first figure: no number that goes on from it is less.
+            int least = figures == 1 ? 10 * (letterAt(from + 1) - '0') : numberAt(from + 1);
+            return asksForKey(letterAt(from)) && !isKey(least);
         }
     }
 

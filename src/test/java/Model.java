@@ -52,9 +52,12 @@ final class Model {
         }
     }
 
-    private static final Pattern WHOLE = Pattern.compile("([-+*/&=%!?^][0-9][0-9]){1,12}");
+    private static final String STEP = "([-+*/&]([01][0-9]|2[0-3])|[=%!?^][0-9][0-9])";
+    private static final Pattern WHOLE = Pattern.compile(STEP + "{1,12}");
     private static final Pattern BEGUN =
-        Pattern.compile("([-+*/&=%!?^][0-9][0-9]){0,12}|([-+*/&=%!?^][0-9][0-9]){0,11}[-+*/&=%!?^][0-9]?");
+        Pattern.compile(STEP + "{0,12}|" + STEP + "{0,11}([-+*/&][0-2]?|[=%!?^][0-9]?)");
+    /** The last two bytes tell a number, but no KEY. */
+    private static final Pattern NO_KEY = Pattern.compile(STEP + "*[-+*/&][0-9][0-9]");
 
     private Map<Integer, Integer> contents = new TreeMap<>();
     private Map<Integer, String> rules = new TreeMap<>();
@@ -133,12 +136,9 @@ final class Model {
     /** -1: none. */
     static int fault(String text) {
         for (int i = 0; i < text.length(); i++) {
-            if (!BEGUN.matcher(text.substring(0, i + 1)).matches()) {
-                return i;
-            }
-            if (i % 3 == 2 && "+-*/&".indexOf(text.charAt(i - 2)) >= 0
-                && Integer.parseInt(text.substring(i - 1, i + 1)) > 23) {
-                return i - 1;
+            String begin = text.substring(0, i + 1);
+            if (!BEGUN.matcher(begin).matches()) {
+                return i < 36 && NO_KEY.matcher(begin).matches() ? i - 1 : i;
             }
         }
         return WHOLE.matcher(text).matches() ? -1 : text.length();
@@ -464,7 +464,7 @@ final class Model {
             for (int asked : traces.get(key).keySet()) {
                 greatest = Math.max(greatest, depth(asked, known));
             }
-            known.put(key, 1 + greatest);
+            known.put(key, traces.get(key).isEmpty() ? 0 : 1 + greatest);
         }
         return known.get(key);
     }

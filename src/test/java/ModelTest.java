@@ -80,9 +80,18 @@ public final class ModelTest {
     }
 
     private static String faulty(String text) {
+        String changed = text;
+        int changes = 1 + random.nextInt(2);
+        for (int i = 0; i < changes && !changed.isEmpty(); i++) {
+            changed = changedOnce(changed);
+        }
+        return changed;
+    }
+
+    private static String changedOnce(String text) {
         StringBuilder changed = new StringBuilder(text);
         int at = random.nextInt(text.length());
-        switch (random.nextInt(5)) {
+        switch (random.nextInt(6)) {
             case 0:
                 changed.setLength(at);
                 break;
@@ -94,6 +103,9 @@ public final class ModelTest {
                 break;
             case 3:
                 changed.append("+05=1x&99".charAt(random.nextInt(9)));
+                break;
+            case 4:
+                changed.append("+-*/&=%!?^".charAt(random.nextInt(10))).append((char) ('0' + random.nextInt(10)));
                 break;
             default:
                 break;

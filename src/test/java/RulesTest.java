@@ -6,6 +6,7 @@ public final class RulesTest {
         tape();
         ruleFromText();
         faults();
+        faultsOfFigures();
         dropAndCopy();
         steps();
         Check.end();
@@ -111,18 +112,47 @@ public final class RulesTest {
             "", "+", "+0", "x", "0", "+x", "+0x", "+00x", "+00+", "+24", "-99", "*30", "/24", "&24", "+23+24",
             "=24", "%99", "?24", "^99", "!50", "=0=", "=00=0x", "+00+00+00+00+00+00+00+00+00+00+00+0",
             "=00=00=00=00=00=00=00=00=00=00=00=00=", "=00=00=00=00=00=00=00=00=00=00=00=00x", "+24x", "=00+30=x",
-            " =00", "=00 ", "+ 0",
+            " =00", "=00 ", "+ 0", "-8", "+3", "+3x", "+2x", "&9+", "=00/7", "=9",
         };
         int[] answers = {
             -100, -101, -102, -100, -100, -101, -102, -103, -104, -101, -101, -101, -101, -101, -104,
             1, 1, 1, 1, 1, -102, -105, -135,
             -136, -136, -101, -104,
-            -100, -103, -101,
+            -100, -103, -101, -101, -101, -101, -102, -101, -104, -102,
         };
         for (int i = 0; i < texts.length; i++) {
             Check.due("rule of '" + texts[i] + "'", Check.rule(x, 9, texts[i]), answers[i]);
             Check.due("told(8)", x.told(8), 0);
         }
+    }
+
+    /** Each sign, each first figure, at each STEP: by itself, and with each second figure. */
+    private static void faultsOfFigures() {
+        Check.part("6 FAULT of figures");
+        String before = "";
+        for (int step = 0; step < 12; step++) {
+            for (char sign : "+-*/&=%!?^".toCharArray()) {
+                boolean tellsKey = "+-*/&".indexOf(sign) >= 0;
+                for (int first = 0; first < 10; first++) {
+                    BuildEngine x = new BuildEngine();
+                    String text = before + sign + first;
+                    int figures = before.length() + 1;
+                    boolean goesOn = !tellsKey || first <= 2;
+                    int due = goesOn ? -100 - text.length() : -100 - figures;
+                    Check.due("rule of '" + text + "'", Check.rule(x, 9, text), due);
+                    Check.due("rule of '" + text + "x'", Check.rule(x, 9, text + "x"), due);
+                    for (int second = 0; second < 10; second++) {
+                        boolean fits = !tellsKey || 10 * first + second < 24;
+                        Check.due("rule of '" + text + second + "'", Check.rule(x, 9, text + second),
+                            fits ? step + 1 : -100 - figures);
+                    }
+                }
+            }
+            before += "=00";
+        }
+        BuildEngine x = new BuildEngine();
+        Check.due("behind the last STEP", Check.rule(x, 9, before + "+9"), -136);
+        Check.due("behind the last STEP", Check.rule(x, 9, before + "+99"), -136);
     }
 
     private static void dropAndCopy() {

@@ -114,10 +114,32 @@ public final class TracesTest {
         Check.due("depth(14)", x.depth(14), 0);
         Check.due("depth(24)", x.depth(24), BuildEngine.NONE);
         Check.due("depth(-1)", x.depth(-1), BuildEngine.NONE);
-        // read so: the greatest DEPTH of no KEYS is 0, and DEPTH is 1 more
-        Check.due("depth(10) with a TRACE of no KEYS", x.depth(10), 1);
         x.drop(8);
         Check.due("depth(9) when 8 has no TRACE", x.depth(9), 1);
+        depthAboveNoKeys();
+    }
+
+    private static void depthAboveNoKeys() {
+        BuildEngine x = ladder();
+        Check.ruled(x, 14, "=00/00");
+        Check.ruled(x, 15, "+10");
+        Check.ruled(x, 16, "+10+14");
+        Check.ruled(x, 17, "+15");
+        Check.ruled(x, 18, "=00?01+10=03");
+        Check.ruled(x, 19, "=00%00");
+        Check.ruled(x, 20, "+19");
+        x.all(0);
+        Check.due("a TRACE of no KEYS", x.trace(10, -1), 0);
+        Check.due("depth(10), of no KEYS", x.depth(10), 0);
+        Check.due("depth(12), of 10 and an INPUT", x.depth(12), 1);
+        Check.due("depth(11), of 10 and 9", x.depth(11), 3);
+        Check.due("depth(14), of an INPUT", x.depth(14), 1);
+        Check.due("depth(15), of 10 alone", x.depth(15), 1);
+        Check.due("depth(16), of 10 and 14", x.depth(16), 2);
+        Check.due("depth(17), of 15", x.depth(17), 2);
+        Check.due("depth(18), whose asking is passed over", x.depth(18), 0);
+        Check.due("depth(19), a FAILURE of no KEYS", x.depth(19), 0);
+        Check.due("depth(20), of that FAILURE", x.depth(20), 1);
     }
 
     private static void order() {
