@@ -231,7 +231,7 @@ public final class BuildsTest {
         Check.ruled(x, 12, "+11");
         Check.due("STOPPED by one that is told", x.some(Check.set(12, 13), 1), 2);
         Check.due("told(10)", x.told(10), 12);
-        // 9 has seen 10; it is looked through, so 10 is BUILT and fails, but 9 doesn't need it any more
+        // 9 has seen 10; it is looked through, so 10 is BUILT and fails for it, ahead of its own turn
         Check.ruled(x, 9, "+10+00");
         x.build(9);
         Check.ruled(x, 10, "+07");

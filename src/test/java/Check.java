@@ -45,6 +45,11 @@ final class Check {
         due("rule(" + key + ") of " + text, rule(x, key, text), text.length() / 3);
     }
 
+    /** A KEY as a RULE's text tells it: two figures. */
+    static String two(int n) {
+        return "" + (char) ('0' + n / 10) + (char) ('0' + n % 10);
+    }
+
     /** The bits of TARGETS. */
     static int set(int... keys) {
         int bits = 0;
