@@ -838,7 +838,8 @@ public final class BuildEngine {
         /** A BUILD of one TARGET: how many STARTS it took. */
         int startsFor(int key) {
             int before = starts;
-            buildEach(bitOf(key), false);
+            forgetBuild();
+            buildTarget(key, 1);
             return starts - before;
         }
 
@@ -943,7 +944,7 @@ public final class BuildEngine {
                     if (isIn(open, n)) {
                         return Result.ofFailure(key, RING, at, null);
                     }
-                    Result got = resultIfDone(n);
+                    Result got = isInput(n) || isIn(done, n) ? world.resultOf(n) : null;
                     if (got == null) {
                         wanted = n;
                         return null;
@@ -963,10 +964,6 @@ public final class BuildEngine {
                 passing = stepsToPass(sign, v, n);
             }
             return Result.ofContent((int) v);
-        }
-
-        private Result resultIfDone(int key) {
-            return isTarget(key) && !isIn(done, key) ? null : world.resultOf(key);
         }
 
         private static long worked(int sign, long v, long operand) {
@@ -1001,7 +998,7 @@ public final class BuildEngine {
         }
 
         private static boolean isIn(int set, int key) {
-            return (set & bitOf(key)) != 0;
+            return isTarget(key) && (set >> (key - INPUTS) & 1) == 1;
         }
     }
 

@@ -20,6 +20,7 @@ public final class EdgesOfBuildsTest {
         stops();
         sets();
         tried();
+        triedOfTwelveKeys();
         triedCounts();
         told();
         Check.end();
@@ -481,6 +482,23 @@ public final class EdgesOfBuildsTest {
             for (int i = 0; i < 8; i++) {
                 Check.due("tried(8, " + i + ", 0)", x.tried(8, i, 0), i == input ? 1 : 0);
             }
+        }
+    }
+
+    private static void triedOfTwelveKeys() {
+        Check.part("13 tried: a TRACE of 12 KEYS is LOOKED THROUGH to its end");
+        BuildEngine x = new BuildEngine();
+        for (int input = 0; input < 8; input++) {
+            x.give(input, input);
+        }
+        for (int key = 20; key < 24; key++) {
+            Check.ruled(x, key, "=01");
+        }
+        Check.ruled(x, 8, "+20+21+22+23+07+06+05+04+03+02+01+00");
+        x.build(8);
+        for (int input = 0; input < 8; input++) {
+            Check.due("tried(8, " + input + ", " + input + ")", x.tried(8, input, input), 0);
+            Check.due("tried(8, " + input + ", 9)", x.tried(8, input, 9), 1);
         }
     }
 

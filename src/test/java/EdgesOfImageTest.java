@@ -7,6 +7,7 @@ public final class EdgesOfImageTest {
         inputsComeBack();
         rulesComeBack();
         resultsAndTracesComeBack();
+        aTraceOfTwelveKeysComesBack();
         whatStays();
         noTargetIsDone();
         takenAnew();
@@ -146,6 +147,38 @@ public final class EdgesOfImageTest {
             Check.due("what was forgotten comes back", x.seen(key, 0), 7);
             Check.due("it is SPARED", x.build(key), 0);
         }
+    }
+
+    private static void aTraceOfTwelveKeysComesBack() {
+        Check.part("THE IMAGE: a TRACE of 12 KEYS");
+        BuildEngine x = new BuildEngine();
+        for (int key = 0; key < 8; key++) {
+            x.give(key, 10 + key);
+        }
+        for (int key = 20; key < 24; key++) {
+            Check.ruled(x, key, "=" + (10 + key));
+        }
+        Check.ruled(x, 8, "+07+06+05+04+20+21+22+23+03+02+01+00");
+        x.build(8);
+        x.image();
+        for (int key = 0; key < 8; key++) {
+            x.give(key, 50 + key);
+        }
+        for (int key = 20; key < 24; key++) {
+            Check.ruled(x, key, "+00+01");
+        }
+        Check.ruled(x, 8, "+00+01+02+03+23+22+21+20+04+05+06+07");
+        x.build(8);
+        x.undo();
+        int[] keys = {7, 6, 5, 4, 20, 21, 22, 23, 3, 2, 1, 0};
+        Check.due("trace(8, -1)", x.trace(8, -1), 12);
+        for (int i = 0; i < 12; i++) {
+            Check.due("trace(8, " + i + ")", x.trace(8, i), keys[i]);
+            Check.due("seen(8, " + i + ")", x.seen(8, i), 10 + keys[i]);
+            Check.due("users(" + keys[i] + ")", x.users(keys[i]), Check.set(8));
+        }
+        Check.due("fresh()", x.fresh(), Check.set(8, 20, 21, 22, 23));
+        Check.due("it is SPARED", x.build(8), 0);
     }
 
     private static void whatStays() {

@@ -1,13 +1,16 @@
 /**
  * Runs of 512 calls, each answer held against the Model's. The seeds are told, so every run is the same each time.
  * Kinds of runs: 0 of all calls alike, 1 of small RULES and many BUILDS, 2 of RULES that need TARGETS above them (few
- * rings), 3 of RULES that need any TARGET (many rings), 4 of texts with FAULTS.
+ * rings), 3 of RULES that need any TARGET (many rings), 4 of texts with FAULTS, 5 of RULES that need many KEYS.
  */
 public final class ModelTest {
     private static final int RUNS = 6000, CALLS = 512, LOOKS = 200;
     private static final int[] EDGES = {Integer.MIN_VALUE, Integer.MIN_VALUE + 1, -1000001, -1000000, -100, -15, -2, -1,
         0, 1, 2, 3, 4, 7, 8, 9, 15, 16, 19, 20, 21, 22, 23, 24, 25, 49, 50, 99, 127, 128, 65535, 65536, 1000000, 1000001,
         10000000, Integer.MAX_VALUE - 20, Integer.MAX_VALUE - 1, Integer.MAX_VALUE};
+
+    /** Each goes through all of 12 places. */
+    private static final int[] STRIDES = {1, 5, 7, 11};
 
     private static final Draws random = new Draws();
     private static BuildEngine engine;
@@ -19,9 +22,9 @@ public final class ModelTest {
             random.setSeed(run);
             engine = new BuildEngine();
             model = new Model();
-            kind = run % 5;
+            kind = run % 6;
             Check.part("run " + run);
-            int calls = 0;
+            int calls = kind == 5 ? giveAll() : 0;
             while (calls < CALLS - LOOKS) {
                 calls += call(CALLS - LOOKS - calls);
             }
@@ -30,6 +33,14 @@ public final class ModelTest {
             }
         }
         Check.end();
+    }
+
+    /** How many calls it was. */
+    private static int giveAll() {
+        for (int key = 0; key < 8; key++) {
+            due("give(" + key + ", " + key + ")", engine.give(key, key), model.give(key, key));
+        }
+        return 8;
     }
 
     /** How many calls it was. */
@@ -47,7 +58,7 @@ public final class ModelTest {
             for (int i = 0; i < text.length(); i++) {
                 feed(text.charAt(i));
             }
-            int key = target();
+            int key = kind == 5 ? text.length() > 3 ? 8 + random.nextInt(4) : 20 + random.nextInt(4) : target();
             due("rule(" + key + ") of " + text, engine.rule(key), model.rule(key));
             return text.length() + 1;
         }
@@ -65,7 +76,23 @@ public final class ModelTest {
         return 8 + random.nextInt(kind == 1 ? 5 : 16);
     }
 
+    /** Of 12 KEYS, mostly the INPUTS and TARGETS 20 .. 23, each once. */
+    private static String longRuleText() {
+        StringBuilder text = new StringBuilder();
+        int first = random.nextInt(12);
+        int stride = STRIDES[random.nextInt(4)];
+        for (int i = 0; i < 12; i++) {
+            int place = (first + i * stride) % 12;
+            int key = random.nextInt(60) == 0 ? target() : place < 8 ? place : place + 12;
+            text.append(random.nextInt(2) == 0 ? '+' : '-').append((char) ('0' + key / 10)).append((char) ('0' + key % 10));
+        }
+        return text.toString();
+    }
+
     private static String ruleText() {
+        if (kind == 5) {
+            return random.nextInt(3) == 0 ? longRuleText() : "+0" + random.nextInt(8);
+        }
         StringBuilder text = new StringBuilder();
         int length = 1 + random.nextInt(random.nextInt(3) == 0 ? 12 : 3);
         for (int i = 0; i < length; i++) {
@@ -223,7 +250,7 @@ public final class ModelTest {
 
     /** One of the calls that only look, told what is mostly there. */
     private static void look(int target, int key) {
-        int i = random.nextInt(6) - 1;
+        int i = random.nextInt(kind == 5 ? 14 : 6) - 1;
         int what = random.nextInt(3);
         switch (random.nextInt(15)) {
             case 0: due("result(" + key + ")", engine.result(key), model.result(key)); break;
